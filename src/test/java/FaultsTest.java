@@ -6,6 +6,7 @@ public final class FaultsTest {
         tokens();
         syntax();
         room();
+        lastToken();
         sorts();
         twice();
         names();
@@ -88,6 +89,44 @@ public final class FaultsTest {
         Check.fault("dies=((((((1))))))+((((((2))))));", 0, -1);
         Check.fault("dies=((((((1+(2)))))));", 2, 13);
         Check.fault("dies=(((((1)+((2))))));", 0, -1);
+    }
+
+    /** The 401st token at every place of every sort: ROOM, and SYNTAX where it does not go on. */
+    static void lastToken() {
+        String[] tells = {"field h ;", "person p 7 ;", "hedge f g a b 7 ;", "heirs a b c ;", "seed 7 ;",
+            "grows = if ( high ) < 2 then 3 * 4 else 5 + 6 / 7 ;", "costs = if 1 < 2 then 3 else if 1 < 2 then ( 1 - 1 ) else 0 ;"};
+        String ahead = "field f;field g;person a 1;person b 1;person c 1;";
+        for (String tell : tells) {
+            String[] parts = tell.split(" ");
+            for (int at = 0; at < parts.length; at++) {
+                int fill = 400 - at - 18;
+                int threes = fill % 4 == 0 ? 0 : 4 - fill % 4;
+                String text = ahead + "seed 1;".repeat(threes) + "dies=1;".repeat((fill - 3 * threes) / 4);
+                int place = text.length();
+                for (int i = 0; i < at; i++) {
+                    place += parts[i].length() + 1;
+                }
+                Check.fault(text + tell, 2, place);
+                Check.fault(text + tell.substring(0, place - text.length()) + "#", 1, place);
+                Check.fault(text + tell.substring(0, place - text.length()), at == 0 ? 0 : 1, at == 0 ? -1 : place);
+            }
+        }
+        for (String tell : tells) {
+            String[] parts = tell.split(" ");
+            int place = 0;
+            for (String part : parts) {
+                Check.fault(ahead + tell.substring(0, place) + "? " + tell.substring(place), 1, ahead.length() + place);
+                Check.fault(ahead + tell.substring(0, place) + "heirs " + tell.substring(place), 1,
+                    ahead.length() + (place == 0 ? 6 : place));
+                place += part.length() + 1;
+            }
+        }
+        String six = "((((((1))))))";
+        Check.fault("dies=if " + six + "<" + six + " then " + six + " else " + six + ";", 0, -1);
+        Check.fault("dies=if (" + six + ")<1 then 1 else 1;", 2, 14);
+        Check.fault("dies=if 1<(" + six + ") then 1 else 1;", 2, 16);
+        Check.fault("dies=if 1<1 then (" + six + ") else 1;", 2, 23);
+        Check.fault("dies=if 1<1 then 1 else (" + six + ");", 2, 30);
     }
 
     static void sorts() {

@@ -42,8 +42,9 @@ public final class OracleTest {
         }
         for (int i = 0; i < 300; i++) {
             String name = CALLS[random.nextInt(CALLS.length)];
-            if (name.equals("read") && random.nextInt(8) != 0) {
-                continue;
+            if (name.equals("read") && random.nextInt(3) != 0) {
+                text = random.nextInt(4) == 0 ? spoiled(random, text(random)) : text(random);
+                putAnew(x, o, text);
             }
             if (name.equals("feed")) {
                 feed(random, x, o);
@@ -61,6 +62,12 @@ public final class OracleTest {
         }
     }
 
+    static void putAnew(FenceSides x, Oracle o, String text) {
+        Check.due("all goes", x.back(o.tape.length()), 0);
+        Check.put(x, text);
+        o.tape = text;
+    }
+
     static void feed(Random random, FenceSides x, Oracle o) {
         int[] n = new int[5];
         StringBuilder bytes = new StringBuilder();
@@ -70,8 +77,9 @@ public final class OracleTest {
                 bytes.append((char) (n[i] >>> shift & 255));
             }
         }
-        o.tape += bytes;
-        Check.due("feed", x.feed(n[0], n[1], n[2], n[3], n[4]), o.tape.length());
+        boolean fits = o.tape.length() + 20 <= 2000;
+        o.tape += fits ? bytes : "";
+        Check.due("feed", x.feed(n[0], n[1], n[2], n[3], n[4]), fits ? o.tape.length() : -1);
     }
 
     static int number(Random random, String name, int index) {

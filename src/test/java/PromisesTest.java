@@ -30,6 +30,8 @@ public final class PromisesTest {
         told();
         slots();
         count();
+        textAfterText();
+        everyNumber();
         Check.end("PromisesTest");
     }
 
@@ -73,6 +75,8 @@ public final class PromisesTest {
         Check.due("a word without its end", x.read(), 1);
         Check.due("place of it", x.place(), 0);
         Check.due("back of an empty tape", x.back(1), -1);
+        x.feed(0, 0, 0, 0, 0);
+        Check.due("all goes", x.back(20), 0);
     }
 
     static void readAndPlace() {
@@ -496,6 +500,10 @@ public final class PromisesTest {
         Check.due("nothing happened", x.count(3), 0);
         x.years(1);
         Check.due("all died", x.count(16), 0);
+        FenceSides y = Check.of("field f; field g; person a 1; person b 1; hedge f g a b 5; heirs a b b; dies = if which < 1 then 100 else 0; grows = if outer < 3 then 1 else 2;");
+        Check.due("nobody dies, so no GAP", y.gaps(3), 0);
+        Check.due("nobody dies, all are older", y.highest(3, 1), 5 + 1 + 1 + 2);
+        Check.due("with deaths", y.then(0, 3, 1), 1);
         Check.due("one with a GAP counts", Check.of("field f; field g; person a 1; hedge f g a a 5; hedge f g a a 4;").highest(3, 1), 6);
     }
 
@@ -583,6 +591,8 @@ public final class PromisesTest {
         Check.due("year of c", x.year(2, 60, 20), 20);
         Check.due("year of b", x.year(1, 5, 20), 20);
         Check.due("year of b, later", x.year(1, 6, 20), 0);
+        Check.due("year by 1 seed", x.year(1, 5, 1), 1);
+        Check.due("whose the INNER one", x.whose(0, 1, 0), 1);
         Check.due("year by 0 seeds", x.year(1, 6, 0), -1);
         Check.due("year by 21 seeds", x.year(1, 6, 21), -1);
         Check.due("year in 61", x.year(1, 61, 1), -1);
@@ -706,6 +716,8 @@ public final class PromisesTest {
         x.restore(2);
         Check.due("held anew", x.count(3), 1);
         Check.due("two slots", x.count(11), 2);
+        Check.due("restore(0)", x.restore(0), true);
+        Check.due("year 1 of it", x.count(3), 1);
     }
 
     static void count() {
@@ -725,5 +737,102 @@ public final class PromisesTest {
         Check.due("count(18)", x.count(18), -1);
         Check.due("count(-1)", x.count(-1), -1);
         Check.due("count(MIN)", x.count(MIN), -1);
+    }
+
+    /** Nothing of an earlier text stays, nor of one with a fault. */
+    static void textAfterText() {
+        FenceSides x = new FenceSides();
+        String full = "field f; field g; field h; person a 90; person b 90; person c 90; hedge f g a b 9; hedge f g b a 8;"
+            + "heirs a b c; heirs b c a; heirs c a b; heirs a b c; heirs a b c; grows = 7; dies = 100; falls = 1; costs = 3; seed 5;";
+        String[] others = {"field f; field g; person a 1; person b 2; person c 2; hedge f g a b 3;"
+            + "heirs c a b; heirs c a b; heirs c a b; heirs c a b; heirs c a b; heirs c a b;", full + " field", "dies = 5; seed 9; field f; field f;"};
+        for (int turn = 0; turn < 9; turn++) {
+            Check.put(x, full);
+            Check.due("the full text", x.read(), 0);
+            x.clip(0, 0);
+            x.years(2);
+            x.clip(1, 1);
+            Check.put(x, others[1]);
+            Check.due("a fault", x.read(), 1);
+            Check.put(x, others[2]);
+            Check.due("another fault", x.read(), 3);
+            Check.due("the law stays", x.hedge(0, 9), 3);
+            Check.due("the heirs stay", x.person(0, 4), 2);
+            Check.put(x, others[0]);
+            Check.due("the other text", x.read(), 0);
+            Check.due("its FIELDS", x.count(0), 2);
+            Check.due("its HEDGES", x.count(2), 1);
+            Check.due("a has no heirs", x.person(0, 3), -2);
+            Check.due("c has", x.person(2, 3), 0);
+            Check.due("GROWS 1", x.hedge(0, 7), 1);
+            Check.due("FALLS 0", x.hedge(0, 8), 0);
+            Check.due("COSTS high", x.hedge(0, 9), 3);
+            Check.due("DIES 0", x.person(0, 6), 0);
+            Check.due("clipped: the year", x.hedge(0, 6), 0);
+            Check.due("never clipped", x.count(14), 0);
+            x.years(1);
+            Check.due("all are alive", x.count(4), 7);
+            Check.due("clipped: a year", x.hedge(0, 6), 1);
+            Check.due("no FACES of nobody's", x.count(7), 0);
+        }
+        FenceSides seeds = Check.of("person a 1; dies = 50; seed 4711;");
+        FenceSides none = Check.of("person a 1; dies = 50;");
+        Check.put(seeds, "person a 1; dies = 50;");
+        seeds.read();
+        for (int n = 0; n < 9; n++) {
+            Check.due("SEED 0 if not told, " + n, seeds.aliveIn(n), none.aliveIn(n));
+        }
+        FenceSides last = Check.of("seed 3; person a 1; dies = 50; seed 8;");
+        FenceSides same = Check.of("person a 1; dies = 50; seed 8;");
+        for (int n = 0; n < 9; n++) {
+            Check.due("the last SEED, " + n, last.aliveIn(n), same.aliveIn(n));
+        }
+    }
+
+    /** Hedges, faces and people other than the first ones are told apart. */
+    static void everyNumber() {
+        FenceSides x = Check.of("field f; field g; field h; person a 11; person b 22; person c 33; hedge f g a b 1; hedge g h b c 2;"
+            + "hedge h f c a 3; hedge h g c b 4; heirs b a c; heirs c b a; falls = which - 1; costs = 10 * which + high;");
+        int[][] want = {{0, 1, 0, 1, 1}, {1, 2, 1, 2, 2}, {2, 0, 2, 0, 3}, {2, 1, 2, 1, 4}};
+        for (int h = 0; h < 4; h++) {
+            for (int what = 0; what < 5; what++) {
+                Check.due("hedge(" + h + ", " + what + ")", x.hedge(h, what), want[h][what]);
+            }
+        }
+        for (int h = 3; h >= 0; h--) {
+            Check.due("FALLS of " + h, x.hedge(h, 8), h > 1 ? 1 : 0);
+            Check.due("COSTS of " + (3 - h), x.hedge(3 - h, 9), 10 * (3 - h) + 4 - h);
+        }
+        Check.due("heir of b", x.person(1, 3), 0);
+        Check.due("heir of b to INNER ones", x.person(1, 4), 2);
+        Check.due("heir of c", x.person(2, 3), 1);
+        Check.due("heir of c to INNER ones", x.person(2, 4), 0);
+        Check.due("will for the first PERSON", x.will(1, 0), 1);
+        Check.due("will for the last one", x.will(1, 2), 2);
+        Check.due("clip by the INNER one", x.clip(1, 3), true);
+        Check.due("clip by another", x.clip(0, 3), false);
+        Check.due("sell back", x.sell(3, 1, 1), false);
+        Check.due("sell", x.sell(3, 0, 0), true);
+        Check.due("sold", x.hedge(3, 2), 0);
+        x.years(2);
+        x.clip(1, 1);
+        x.undo();
+        Check.due("undone: never clipped", x.hedge(1, 6), 2);
+        Check.due("clipped two years ago", x.hedge(3, 6), 2);
+        FenceSides spouse = Check.of("field f; field g; person a 1; person b 1; person c 1; hedge f g b b 1; hedge f g a c 1; hedge f g a c 1;");
+        spouse.marry(1, 0);
+        Check.due("will for the first one as spouse", spouse.will(1, 0), 2);
+        Check.due("a is married: c with nobody", spouse.matched(2), -2);
+        Check.due("a is married: nothing is joined", spouse.matched(-1), 0);
+        FenceSides clip = Check.of("field f; field g; person a 1; person b 1; hedge f g a b 1; costs = clipped; grows = 0;");
+        clip.years(3);
+        Check.due("clipped in a LAW: the year", clip.hedge(0, 9), 3);
+        clip.clip(0, 0);
+        clip.years(2);
+        Check.due("clipped in a LAW: since then", clip.hedge(0, 9), 2);
+        FenceSides line = Check.of("field f; field g; person a 1; person b 1; person c 1; person d 1; hedge f g a a 1; hedge f g d d 1; hedge f g c c 1; heirs d a c;");
+        Check.due("each answer by itself", line.look(0), 0);
+        line.tell(0, 0, 0, true);
+        Check.due("b, c or d: d's by its FACE, c's alike", line.look(1), 10);
     }
 }
