@@ -932,8 +932,8 @@ public final class FenceSides {
             if (which < 0 || which >= LAWS) {
                 return fail(SYNTAX);
             }
-            Law law = parish.laws[which];
-            law.size = 0;
+            Laws laws = parish.laws;
+            laws.begin(which);
             if (!take(Tokens.FIRST_LAW + which) || !take(Tokens.EQUAL)) {
                 return false;
             }
@@ -941,71 +941,74 @@ public final class FenceSides {
                 if (ifs == MOST_IFS) {
                     return fail(FULL);
                 }
-                if (!readIf(law)) {
+                if (!readIf(laws)) {
                     return false;
                 }
             }
-            return readSum(law, 0) && take(Tokens.SEMICOLON);
+            if (!readSum(laws, 0)) {
+                return false;
+            }
+            laws.end(which);
+            return take(Tokens.SEMICOLON);
         }
 
-        private boolean readIf(Law law) {
-            if (!take(Tokens.IF) || !readSum(law, 0) || !take(Tokens.LESS) || !readSum(law, 0)) {
+        private boolean readIf(Laws laws) {
+            if (!take(Tokens.IF) || !readSum(laws, 0) || !take(Tokens.LESS) || !readSum(laws, 0)) {
                 return false;
             }
-            int jump = law.size;
-            law.add(Law.UNLESS_LESS, 0);
-            if (!take(Tokens.THEN) || !readSum(law, 0) || !take(Tokens.ELSE)) {
+            int jump = laws.add(Laws.UNLESS_LESS, 0);
+            if (!take(Tokens.THEN) || !readSum(laws, 0) || !take(Tokens.ELSE)) {
                 return false;
             }
-            law.add(Law.STOP, 0);
-            law.jumpHere(jump);
+            laws.add(Laws.STOP, 0);
+            laws.jumpHere(jump);
             return true;
         }
 
-        private boolean readSum(Law law, int depth) {
-            if (!readProduct(law, depth)) {
+        private boolean readSum(Laws laws, int depth) {
+            if (!readProduct(laws, depth)) {
                 return false;
             }
             for (int turn = 0; turn <= Tokens.ROOM && (kind() == Tokens.PLUS || kind() == Tokens.MINUS); turn++) {
                 int sign = kind();
-                if (!take(sign) || !readProduct(law, depth)) {
+                if (!take(sign) || !readProduct(laws, depth)) {
                     return false;
                 }
-                law.add(sign == Tokens.PLUS ? Law.ADD : Law.SUBTRACT, 0);
+                laws.add(sign == Tokens.PLUS ? Laws.ADD : Laws.SUBTRACT, 0);
             }
             return true;
         }
 
-        private boolean readProduct(Law law, int depth) {
-            if (!readUnit(law, depth)) {
+        private boolean readProduct(Laws laws, int depth) {
+            if (!readUnit(laws, depth)) {
                 return false;
             }
             for (int turn = 0; turn <= Tokens.ROOM && (kind() == Tokens.TIMES || kind() == Tokens.BY); turn++) {
                 int sign = kind();
-                if (!take(sign) || !readUnit(law, depth)) {
+                if (!take(sign) || !readUnit(laws, depth)) {
                     return false;
                 }
-                law.add(sign == Tokens.TIMES ? Law.MULTIPLY : Law.DIVIDE, 0);
+                laws.add(sign == Tokens.TIMES ? Laws.MULTIPLY : Laws.DIVIDE, 0);
             }
             return true;
         }
 
-        private boolean readUnit(Law law, int depth) {
+        private boolean readUnit(Laws laws, int depth) {
             int kind = kind();
             if (kind == Tokens.OPENING) {
                 if (depth >= DEEPEST) {
                     return fail(FULL);
                 }
-                return take(Tokens.OPENING) && readSum(law, depth + 1) && take(Tokens.CLOSING);
+                return take(Tokens.OPENING) && readSum(laws, depth + 1) && take(Tokens.CLOSING);
             }
             if (kind >= Tokens.FIRST_VAR && kind <= Tokens.LAST_VAR) {
-                law.add(Law.VARIABLE, kind - Tokens.FIRST_VAR);
+                laws.add(Laws.VARIABLE, kind - Tokens.FIRST_VAR);
                 return take(kind);
             }
             if (!take(Tokens.INT)) {
                 return false;
             }
-            law.add(Law.NUMBER, (int) lastValue());
+            laws.add(Laws.NUMBER, (int) lastValue());
             return true;
         }
 
@@ -1080,8 +1083,8 @@ public final class FenceSides {
         }
     }
 
-    /** A law as a row of steps over a stack; jumps go forward alone. */
-    private static final class Law {
+    /** The laws of a text as one row of steps over a stack; jumps go forward alone. */
+    private static final class Laws {
         static final int NUMBER = 0;
         static final int VARIABLE = 1;
         static final int ADD = 2;
@@ -1091,17 +1094,43 @@ public final class FenceSides {
         static final int UNLESS_LESS = 6;
         static final int STOP = 7;
 
-        // No step without a token of its own.
-        private final int[] steps = new int[Tokens.ROOM + 1];
-        private final int[] numbers = new int[Tokens.ROOM + 1];
-        int size;
+        // One step for each law not told, else none without a token of its own; a law told again stands behind.
+        private final int[] steps = new int[Tokens.ROOM + LAWS];
+        private final int[] numbers = new int[Tokens.ROOM + LAWS];
+        private final int[] first = new int[LAWS];
+        private final int[] behind = new int[LAWS];
+        private int size;
 
-        void add(int step, int number) {
+        void clear() {
+            size = 0;
+            putOnly(GROWS, NUMBER, 1);
+            putOnly(DIES, NUMBER, 0);
+            putOnly(FALLS, NUMBER, 0);
+            putOnly(COSTS, VARIABLE, HIGH_VAR);
+        }
+
+        private void putOnly(int law, int step, int number) {
+            begin(law);
+            add(step, number);
+            end(law);
+        }
+
+        void begin(int law) {
+            first[law] = size;
+        }
+
+        void end(int law) {
+            behind[law] = size;
+        }
+
+        /** Which step it is. */
+        int add(int step, int number) {
             if (size < steps.length) {
                 steps[size] = step;
                 numbers[size] = number;
                 size++;
             }
+            return size - 1;
         }
 
         void jumpHere(int jump) {
@@ -1110,9 +1139,9 @@ public final class FenceSides {
             }
         }
 
-        int valueBy(int[] vars, int[] stack) {
+        int valueOf(int law, int[] vars, int[] stack) {
             int top = 0;
-            for (int at = 0; at < size; at++) {
+            for (int at = first[law]; at < behind[law]; at++) {
                 int step = steps[at];
                 if (step <= VARIABLE) {
                     if (top >= stack.length) {
@@ -1161,7 +1190,7 @@ public final class FenceSides {
         final int[] fieldAt = new int[MOST_FACES];
         final int[] firstOwner = new int[MOST_FACES];
         final int[] firstHigh = new int[MOST_HEDGES];
-        final Law[] laws = new Law[LAWS];
+        final Laws laws = new Laws();
         int fields;
         int people;
         int hedges;
@@ -1169,9 +1198,6 @@ public final class FenceSides {
         int seed;
 
         Parish() {
-            for (int which = 0; which < LAWS; which++) {
-                laws[which] = new Law();
-            }
             clear();
         }
 
@@ -1184,13 +1210,7 @@ public final class FenceSides {
             for (int i = 0; i < heir.length; i++) {
                 heir[i] = NOBODY;
             }
-            for (int which = 0; which < LAWS; which++) {
-                laws[which].size = 0;
-            }
-            laws[GROWS].add(Law.NUMBER, 1);
-            laws[DIES].add(Law.NUMBER, 0);
-            laws[FALLS].add(Law.NUMBER, 0);
-            laws[COSTS].add(Law.VARIABLE, HIGH_VAR);
+            laws.clear();
         }
 
         void begin(State state) {
@@ -1326,24 +1346,24 @@ public final class FenceSides {
 
         int growsOf(Parish parish, State state, int hedge) {
             lookAtHedge(state, hedge);
-            return within(parish.laws[GROWS].valueBy(vars, stack), HIGHEST_HEDGE);
+            return within(parish.laws.valueOf(GROWS, vars, stack), HIGHEST_HEDGE);
         }
 
         boolean fallsOf(Parish parish, State state, int hedge) {
             lookAtHedge(state, hedge);
-            return parish.laws[FALLS].valueBy(vars, stack) > 0;
+            return parish.laws.valueOf(FALLS, vars, stack) > 0;
         }
 
         int costsOf(Parish parish, State state, int hedge) {
             lookAtHedge(state, hedge);
-            return within(parish.laws[COSTS].valueBy(vars, stack), HIGHEST_HEDGE);
+            return within(parish.laws.valueOf(COSTS, vars, stack), HIGHEST_HEDGE);
         }
 
         int diesOf(Parish parish, State state, int person) {
             lookAtAll(state, person);
             vars[AGE_VAR] = state.age[person];
             vars[FACES_VAR] = state.facesOf(person);
-            return within(parish.laws[DIES].valueBy(vars, stack), PERCENT);
+            return within(parish.laws.valueOf(DIES, vars, stack), PERCENT);
         }
 
         int dueOf(Parish parish, State state, int person) {
@@ -1368,8 +1388,8 @@ public final class FenceSides {
             for (int hedge = 0; hedge < parish.hedges; hedge++) {
                 if (!state.hasGap(hedge)) {
                     lookAtHedge(state, hedge);
-                    growth[hedge] = within(parish.laws[GROWS].valueBy(vars, stack), HIGHEST_HEDGE);
-                    falling |= parish.laws[FALLS].valueBy(vars, stack) > 0 ? 1 << hedge : 0;
+                    growth[hedge] = within(parish.laws.valueOf(GROWS, vars, stack), HIGHEST_HEDGE);
+                    falling |= parish.laws.valueOf(FALLS, vars, stack) > 0 ? 1 << hedge : 0;
                 }
             }
             state.alive &= ~dying;

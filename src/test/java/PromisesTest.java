@@ -743,7 +743,9 @@ public final class PromisesTest {
     static void textAfterText() {
         FenceSides x = new FenceSides();
         String full = "field f; field g; field h; person a 90; person b 90; person c 90; hedge f g a b 9; hedge f g b a 8;"
-            + "heirs a b c; heirs b c a; heirs c a b; heirs a b c; heirs a b c; grows = 7; dies = 100; falls = 1; costs = 3; seed 5;";
+            + "heirs a b c; heirs b c a; heirs c a b; heirs a b c; heirs a b c;"
+            + "grows = if 0 < 1 then 7 else 8; dies = if years < 2 then 0 else 100; falls = if 0 < 1 then 1 else 0;"
+            + "costs = 2; costs = if 0 < 1 then 3 else 4; seed 5;";
         String[] others = {"field f; field g; person a 1; person b 2; person c 2; hedge f g a b 3;"
             + "heirs c a b; heirs c a b; heirs c a b; heirs c a b; heirs c a b; heirs c a b;", full + " field", "dies = 5; seed 9; field f; field f;"};
         for (int turn = 0; turn < 9; turn++) {
@@ -751,7 +753,8 @@ public final class PromisesTest {
             Check.due("the full text", x.read(), 0);
             x.clip(0, 0);
             x.years(2);
-            x.clip(1, 1);
+            Check.due("clip in year 2", x.clip(1, 0), true);
+            Check.due("clip in year 2", x.clip(1, 1), true);
             Check.put(x, others[1]);
             Check.due("a fault", x.read(), 1);
             Check.put(x, others[2]);
@@ -777,8 +780,10 @@ public final class PromisesTest {
         }
         FenceSides seeds = Check.of("person a 1; dies = 50; seed 4711;");
         FenceSides none = Check.of("person a 1; dies = 50;");
-        Check.put(seeds, "person a 1; dies = 50;");
-        seeds.read();
+        for (int turn = 0; turn < 2; turn++) {
+            Check.put(seeds, "person a 1; dies = 50;");
+            seeds.read();
+        }
         for (int n = 0; n < 9; n++) {
             Check.due("SEED 0 if not told, " + n, seeds.aliveIn(n), none.aliveIn(n));
         }
