@@ -25,8 +25,8 @@ final class Check {
         }
     }
 
-    /** Puts a text on an empty tape; one of up to 2,000 bytes fits. */
-    static void put(FenceSides x, String text) {
+    /** Puts a text on an empty tape; one of up to 2,000 bytes fits. By how many calls. */
+    static int put(FenceSides x, String text) {
         StringBuilder padded = new StringBuilder(text);
         while (padded.length() % 20 != 0) {
             padded.append(' ');
@@ -35,6 +35,7 @@ final class Check {
             x.feed(four(padded, at), four(padded, at + 4), four(padded, at + 8), four(padded, at + 12), four(padded, at + 16));
         }
         x.back(padded.length() - text.length());
+        return padded.length() / 20 + 1;
     }
 
     static int four(CharSequence text, int at) {
@@ -44,14 +45,14 @@ final class Check {
     static FenceSides of(String text) {
         FenceSides x = new FenceSides();
         put(x, text);
-        due("read of <" + text + ">", x.read(), 0);
+        due("promise 4: read of <" + text + ">", x.read(), 0);
         return x;
     }
 
     static void fault(String text, int number, int place) {
         FenceSides x = new FenceSides();
         put(x, text);
-        due("fault of <" + text + ">", x.read(), number);
-        due("place in <" + text + ">", x.place(), place);
+        due("promise 4: the FAULT of <" + text + ">", x.read(), number);
+        due("promise 5: the place in <" + text + ">", x.place(), place);
     }
 }

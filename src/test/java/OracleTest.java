@@ -35,16 +35,19 @@ public final class OracleTest {
         FenceSides x = new FenceSides();
         Oracle o = new Oracle();
         String text = text(random);
+        // Those that put a text count too: an object is used for 512 calls at most.
+        int calls = 0;
         if (random.nextInt(20) != 0) {
-            Check.put(x, text);
+            calls += Check.put(x, text) + 1;
             o.tape = text;
             Check.due("run " + run + " read <" + text + ">", x.read(), o.read());
         }
-        for (int i = 0; i < 300; i++) {
+        for (int i = 0; i < 300 && calls < 350; i++) {
+            calls++;
             String name = CALLS[random.nextInt(CALLS.length)];
             if (name.equals("read") && random.nextInt(3) != 0) {
                 text = random.nextInt(4) == 0 ? spoiled(random, text(random)) : text(random);
-                putAnew(x, o, text);
+                calls += putAnew(x, o, text);
             }
             if (name.equals("feed")) {
                 feed(random, x, o);
@@ -62,10 +65,10 @@ public final class OracleTest {
         }
     }
 
-    static void putAnew(FenceSides x, Oracle o, String text) {
+    static int putAnew(FenceSides x, Oracle o, String text) {
         Check.due("all goes", x.back(o.tape.length()), 0);
-        Check.put(x, text);
         o.tape = text;
+        return 1 + Check.put(x, text);
     }
 
     static void feed(Random random, FenceSides x, Oracle o) {

@@ -748,7 +748,7 @@ public final class PromisesTest {
             + "costs = 2; costs = if 0 < 1 then 3 else 4; seed 5;";
         String[] others = {"field f; field g; person a 1; person b 2; person c 2; hedge f g a b 3;"
             + "heirs c a b; heirs c a b; heirs c a b; heirs c a b; heirs c a b; heirs c a b;", full + " field", "dies = 5; seed 9; field f; field f;"};
-        for (int turn = 0; turn < 9; turn++) {
+        for (int turn = 0; turn < 4; turn++) {
             Check.put(x, full);
             Check.due("the full text", x.read(), 0);
             x.clip(0, 0);
