@@ -40,6 +40,7 @@ public final class AskBoundsTest {
         gatesNone();
         line();
         lineOfSix();
+        lineOfSpouses();
         lineOfNobody();
         eldest();
         ones();
@@ -208,6 +209,7 @@ public final class AskBoundsTest {
         Check.due("promise 18: all are married", first.matched(-1), 0);
         FenceSides alone = Check.of("field f;field g;person a 90;person b 1;hedge f g b b 1;" + OLD);
         alone.years(1);
+        alone.close(1, 0);
         Check.due("promise 18: one alone alive", alone.matched(-1), 0);
         Check.due("promise 18: with no dead one", alone.matched(1), -2);
         FenceSides gap = Check.of(PAIR + "hedge f g a b 1;falls=1;");
@@ -375,6 +377,12 @@ public final class AskBoundsTest {
         Check.due("promise 23: one gate", x.gates(0, 0, 1), 1);
         x.years(1);
         Check.due("promise 23: none that has a GAP", x.gates(0, 0, 1), 0);
+        FenceSides some = Check.of("field f;field g;field h;person a 1;person b 1;hedge f g b b 1;hedge g h b b 1;falls=1-which;");
+        Check.due("promise 23: one gate is not enough for b's leave", some.gates(0, 0, 2), 0);
+        some.years(1);
+        some.close(1, 1);
+        Check.due("promise 23: the other one has a GAP", some.gates(0, 0, 2), 2);
+        Check.due("promise 23: none on the way over a GAP", some.gates(0, 0, 1), 0);
     }
 
     static void line() {
@@ -402,6 +410,24 @@ public final class AskBoundsTest {
         Check.due("promise 24: all are dead then", x.line(0, 0, 6), -2);
         Check.due("promise 24: all are dead then, INNER", x.line(0, 1, 6), -2);
         Check.due("promise 24: no 7th", x.line(0, 0, 7), -1);
+    }
+
+    static void lineOfSpouses() {
+        FenceSides x = Check.of("field f;field g;person a 90;person b 30;person c 20;person d 10;hedge f g b d 1;heirs b a a;heirs c d d;" + OLD);
+        x.marry(1, 2);
+        int[] due = {1, 0, -2};
+        for (int i = 0; i < 3; i++) {
+            Check.due("promise 24: the heir is alive, the " + i + "-th", x.line(0, 0, i), due[i]);
+        }
+        x.years(1);
+        int[] then = {1, 2, 3, -2};
+        for (int i = 0; i < 4; i++) {
+            Check.due("promise 24: a dead heir's to the spouse, the " + i + "-th", x.line(0, 0, i), then[i]);
+        }
+        FenceSides pair = Check.of(PAIR + "hedge f g a b 1;");
+        pair.marry(0, 1);
+        Check.due("promise 24: to the spouse", pair.line(0, 0, 1), 1);
+        Check.due("promise 24: whose spouse is dead then", pair.line(0, 0, 2), -2);
     }
 
     static void lineOfNobody() {
@@ -501,6 +527,8 @@ public final class AskBoundsTest {
         Check.due("promise 30: of alike ones the first", Check.of(PAIR + "hedge f g b a 1;").most(0), 0);
         Check.due("promise 30: the first one's FACES", Check.of(PAIR + "hedge f g a a 1;hedge f g b a 1;").most(1), 3);
         Check.due("promise 30: one more", Check.of(PAIR + "hedge f g b a 1;hedge f g b b 1;").most(0), 1);
+        Check.due("promise 30: the last of six", Check.of("field f;field g;" + TextBoundsTest.people(6) + "hedge f g pa pf 1;hedge f g pf pb 1;").most(0), 5);
+        Check.due("promise 25: the last of six", Check.of(TextBoundsTest.people(5) + "person z 10;").eldest(0), 5);
         Check.due("promise 30: all 20", Check.of(PAIR + "hedge f g b b 1;".repeat(10)).most(1), 20);
         FenceSides gone = Check.of(GONE);
         gone.years(1);

@@ -19,6 +19,7 @@ public final class TextBoundsTest {
         readOfAnEmptyTape();
         readEmptiesTheTape();
         placeOfTheLatestRead();
+        placeBehindEachFault();
         placeIsTheTextsEnd();
         namesOfEightLetters();
         namesThatDifferInOneLetter();
@@ -49,6 +50,7 @@ public final class TextBoundsTest {
         toldAhead();
         aFaultChangesNothing();
         aTextInPlaceOfTheOneAhead();
+        fullTextsAgainAndAgain();
         Check.end("TextBoundsTest");
     }
 
@@ -200,6 +202,30 @@ public final class TextBoundsTest {
         Check.put(x, "field f;field f;");
         x.read();
         Check.due("promise 5: byte 14", x.place(), 14);
+    }
+
+    /** No FAULT of an earlier text stays. */
+    static void placeBehindEachFault() {
+        String[] texts = {"#", "field", fields(8), "field a;field a;", "heirs x y z;", "person a 100;"};
+        int[] faults = {1, 1, 2, 3, 4, 5};
+        int[] places = {0, 5, 56 + 7, 14, 6, 9};
+        FenceSides x = new FenceSides();
+        for (int i = 0; i < texts.length; i++) {
+            for (int j = 0; j < texts.length; j++) {
+                Check.put(x, texts[i]);
+                Check.due("promise 4: the FAULT of <" + texts[i] + ">", x.read(), faults[i]);
+                Check.due("promise 5: its place", x.place(), places[i]);
+                if (i == j) {
+                    Check.put(x, "seed 1;");
+                    Check.due("promise 4: no FAULT behind <" + texts[i] + ">", x.read(), 0);
+                    Check.due("promise 5: no place behind it", x.place(), -1);
+                } else {
+                    Check.put(x, texts[j]);
+                    Check.due("promise 4: <" + texts[j] + "> behind <" + texts[i] + ">", x.read(), faults[j]);
+                    Check.due("promise 5: the latest one's place", x.place(), places[j]);
+                }
+            }
+        }
     }
 
     static void placeIsTheTextsEnd() {
@@ -718,5 +744,19 @@ public final class TextBoundsTest {
         Check.put(same, Twin.TEXT);
         Check.due("promise 4: the same text again", same.read(), 0);
         Twin.alike("promise 4: the same text again, from its beginning", same, Check.of(Twin.TEXT));
+    }
+
+    /** Nothing of the texts ahead counts, of those with a FAULT neither. */
+    static void fullTextsAgainAndAgain() {
+        FenceSides x = new FenceSides();
+        for (int turn = 0; turn < 7; turn++) {
+            Check.put(x, turn % 3 == 2 ? Twin.TEXT + "#" : Twin.TEXT);
+            Check.due("promise 4: the full text, turn " + turn, x.read(), turn % 3 == 2 ? 1 : 0);
+            Check.due("promise 41: FIELDS, turn " + turn, x.count(0), 7);
+            Check.due("promise 41: PEOPLE, turn " + turn, x.count(1), 6);
+            Check.due("promise 41: HEDGES, turn " + turn, x.count(2), 10);
+            Check.due("promise 6: the first HEDGE, turn " + turn, x.hedge(0, 4), 10);
+            Check.due("promise 6: the last HEDGE, turn " + turn, x.hedge(9, 4), 60);
+        }
     }
 }

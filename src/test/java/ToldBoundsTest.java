@@ -25,6 +25,7 @@ public final class ToldBoundsTest {
         restoreOfEach();
         countNumbers();
         countsFull();
+        countsOfTheLast();
         countsEmpty();
         usedFor512Calls();
         Check.end("ToldBoundsTest");
@@ -361,6 +362,23 @@ public final class ToldBoundsTest {
         Check.due("promise 41: all six are married", x.count(5), 63);
         Check.due("promise 41: six are alive", x.count(16), 6);
         Check.due("promise 41: six AGES", x.count(15), 60);
+    }
+
+    /** Fewer FIELDS than PEOPLE, fewer PEOPLE than HEDGES: each sort by its own number. */
+    static void countsOfTheLast() {
+        FenceSides x = Check.of("field f;field g;" + TextBoundsTest.people(6) + "hedge f g pa pb 9;".repeat(9) + "hedge f g pf pf 40;");
+        Check.due("promise 41: DUE of the last PERSON too", x.count(13), 9 * 8 + 40);
+        Check.due("promise 41: HIGH of the last HEDGE too", x.count(12), 9 * 9 + 40);
+        Check.due("promise 41: AGE of the last PERSON too", x.count(15), 54);
+        x.clip(5, 9);
+        Check.due("promise 41: the last one was clipped", x.count(14), 512);
+        x.years(1);
+        Check.due("promise 41: the last one has a GAP", x.count(6), 512);
+        x.marry(4, 5);
+        Check.due("promise 41: the last two are married", x.count(5), 48);
+        FenceSides gone = Check.of("field f;field g;person a 1;person b 1;" + "hedge f g a b 9;".repeat(10) + "dies=100;");
+        gone.years(1);
+        Check.due("promise 41: all 20 FACES are nobody's", gone.count(7), 20);
     }
 
     static void countsEmpty() {

@@ -20,10 +20,13 @@ public final class YearBoundsTest {
         clippedAndTheYear();
         ageOfNobodyIs0();
         gapsForAllLaws();
+        facesFrom0To20();
+        whichOfTheLast();
         lotsAtTheirBoundary();
         lotsOfLaterYears();
         diesOf0And100();
         leavesToTheHeir();
+        leavesAll20();
         leavesToTheSpouse();
         leavesToNobody();
         thoseWhoDieAreDeadFirst();
@@ -240,6 +243,29 @@ public final class YearBoundsTest {
         Check.due("promise 7: one gap in DIES", x.person(0, 6), 7);
     }
 
+    static void facesFrom0To20() {
+        FenceSides x = Check.of(PAIR + "hedge f g a a 1;".repeat(10) + "dies = faces;");
+        Check.due("promise 7: 20 FACES", x.person(0, 5), 20);
+        Check.due("promise 7: 20 faces in DIES", x.person(0, 6), 20);
+        Check.due("promise 7: no FACES", x.person(1, 5), 0);
+        Check.due("promise 7: no faces in DIES", x.person(1, 6), 0);
+        x.sell(9, 1, 1);
+        Check.due("promise 7: 19 faces in DIES", x.person(0, 6), 19);
+        Check.due("promise 7: one face in DIES", x.person(1, 6), 1);
+    }
+
+    static void whichOfTheLast() {
+        FenceSides x = Check.of(Twin.TEXT + "grows = which;falls = which - 8;costs = 10 * which;dies = 10 * which;");
+        for (int h = 0; h < 10; h++) {
+            Check.due("promise 6: which in GROWS, " + h, x.hedge(h, 7), h);
+            Check.due("promise 6: which in FALLS, " + h, x.hedge(h, 8), h == 9 ? 1 : 0);
+            Check.due("promise 6: which in COSTS, " + h, x.hedge(h, 9), 10 * h);
+        }
+        for (int p = 0; p < 6; p++) {
+            Check.due("promise 7: which in DIES, " + p, x.person(p, 6), 10 * p);
+        }
+    }
+
     // ---- lots
 
     static void lotsAtTheirBoundary() {
@@ -302,6 +328,16 @@ public final class YearBoundsTest {
         Check.due("promise 7: the AGE as they died", x.person(0, 0), 90);
         x.years(5);
         Check.due("promise 7: no older when dead", x.person(0, 0), 90);
+    }
+
+    static void leavesAll20() {
+        FenceSides x = Check.of("field f;field g;person a 90;person b 30;person c 20;" + "hedge f g a a 1;".repeat(10) + "heirs a b c;dies = if age < 90 then 0 else 100;");
+        x.years(1);
+        for (int h = 0; h < 10; h++) {
+            Check.due("promise 12: OUTER of " + h + " to the heir", x.hedge(h, 2), 1);
+            Check.due("promise 12: INNER of " + h + " to the heir", x.hedge(h, 3), 2);
+        }
+        Check.due("promise 12: no GAPS, being then two people's", x.count(6), 0);
     }
 
     static void leavesToTheSpouse() {
