@@ -51,6 +51,8 @@ public final class TextBoundsTest {
         aFaultChangesNothing();
         aTextInPlaceOfTheOneAhead();
         fullTextsAgainAndAgain();
+        longLawsAgainAndAgain();
+        emptyTextsAgainAndAgain();
         Check.end("TextBoundsTest");
     }
 
@@ -757,6 +759,40 @@ public final class TextBoundsTest {
             Check.due("promise 41: HEDGES, turn " + turn, x.count(2), 10);
             Check.due("promise 6: the first HEDGE, turn " + turn, x.hedge(0, 4), 10);
             Check.due("promise 6: the last HEDGE, turn " + turn, x.hedge(9, 4), 60);
+        }
+    }
+
+    /** LAWS as long as can be, read again and again: those of texts ahead, with a FAULT or not, take no room. */
+    static void longLawsAgainAndAgain() {
+        String hedge = "field f;field g;person a 1;person b 1;hedge f g a b 7;";
+        for (String end : new String[] {";", ";#", ";field f;"}) {
+            FenceSides x = Check.of(hedge);
+            for (int turn = 0; turn < 8; turn++) {
+                Check.put(x, hedge + "dies=" + "0+".repeat(180) + (turn + 1) + end);
+                Check.due("promise 4: a LAW of 361 TOKENS, turn " + turn + end, x.read(), end.equals(";") ? 0 : end.equals(";#") ? 1 : 3);
+                Check.due("promise 7: what it comes to, turn " + turn + end, x.person(1, 6), end.equals(";") ? turn + 1 : 0);
+                Check.due("promise 6: GROWS if not told, turn " + turn + end, x.hedge(0, 7), 1);
+                Check.due("promise 6: COSTS if not told, turn " + turn + end, x.hedge(0, 9), 7);
+            }
+            Check.put(x, hedge + "grows=" + "0+".repeat(180) + "5;");
+            Check.due("promise 4: another LAW behind " + end, x.read(), 0);
+            Check.due("promise 6: GROWS behind " + end, x.hedge(0, 7), 5);
+            Check.due("promise 7: DIES if not told, behind " + end, x.person(1, 6), 0);
+        }
+    }
+
+    static void emptyTextsAgainAndAgain() {
+        FenceSides x = new FenceSides();
+        for (int turn = 0; turn < 400; turn++) {
+            Check.due("promise 4: the empty text, turn " + turn, x.read(), 0);
+        }
+        for (int turn = 0; turn < 2; turn++) {
+            Check.put(x, TWO + "hedge f g a b 42;falls=3;dies=4;");
+            Check.due("promise 4: a text behind 400 empty ones", x.read(), 0);
+            Check.due("promise 6: GROWS if not told, behind 400", x.hedge(0, 7), 1);
+            Check.due("promise 6: FALLS behind 400", x.hedge(0, 8), 1);
+            Check.due("promise 6: COSTS if not told, behind 400", x.hedge(0, 9), 42);
+            Check.due("promise 7: DIES behind 400", x.person(0, 6), 4);
         }
     }
 }
